@@ -18,6 +18,7 @@ public final class RowsTest {
         promise57();
         promise58();
         promise58Twice();
+        promise58FullBook();
         due.end();
     }
 
@@ -345,5 +346,25 @@ public final class RowsTest {
         x.drop(0, 0, 9);
         x.undo();
         due.is("58 the latest image", x.drops(0, 0), 8);
+    }
+
+    private static void promise58FullBook() {
+        PerfumeOrgan x = Due.organOf(1);
+        x.fill(0, 9999);
+        x.drop(3, 0, 1);
+        x.drop(4, 0, 2);
+        for (int i = 1; i <= 30; i++) {
+            x.make(3, i);
+        }
+        x.image();
+        for (int i = 1; i <= 5; i++) {
+            x.make(4, 50 + i);
+        }
+        x.undo();
+        for (int i = 0; i < 30; i++) {
+            due.is("58 blend of the book", x.book(i, 0), 3);
+            due.is("58 n of the book", x.book(i, 1), 30 - i);
+            due.is("58 drops of the book", x.book(i, 2), 30 - i);
+        }
     }
 }

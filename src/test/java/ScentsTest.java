@@ -194,6 +194,19 @@ public final class ScentsTest {
         x.drop(3, 0, 1);
         due.is("27 when nothing is left", x.turn(3, 0), 153);
         due.is("27 leads(3, 152)", x.leads(3, 152), 6);
+        atTheLastHour();
+    }
+
+    private static void atTheLastHour() {
+        PerfumeOrgan x = new PerfumeOrgan();
+        Due.note(x, "quick", 0, 606, 99);
+        Due.note(x, "slow", 1, 100, 999);
+        Due.drop(x, 0, 1, 1);
+        due.is("27 at the last hour", x.turn(0, 0), 200);
+        due.is("27 the hour ahead", x.leads(0, 199), 0);
+        due.is("27 once", x.blend(0, 2), 1);
+        x.drop(0, 0, 2);
+        due.is("27 too late", x.turn(0, 0), -1);
     }
 
     private static void promise28() {

@@ -290,6 +290,24 @@ public final class StockTest {
         due.is("48 book(30, 0)", x.book(30, 0), -1);
         x.drop(5, 0, 0);
         due.is("48 what is made stays", x.book(0, 2), 90);
+        manyLines();
+    }
+
+    private static void manyLines() {
+        PerfumeOrgan x = Due.organOf(1);
+        x.fill(0, 99999);
+        for (int blend = 0; blend < 16; blend++) {
+            x.drop(blend, 0, blend + 1);
+        }
+        for (int i = 0; i < 40; i++) {
+            x.make(i % 16, i + 1);
+        }
+        for (int i = 0; i < 30; i++) {
+            int line = 39 - i;
+            due.is("48 blend of line " + line, x.book(i, 0), line % 16);
+            due.is("48 n of line " + line, x.book(i, 1), line + 1);
+            due.is("48 drops of line " + line, x.book(i, 2), (line % 16 + 1) * (line + 1));
+        }
     }
 
     private static void promise49() {
