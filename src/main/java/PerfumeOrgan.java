@@ -1204,9 +1204,9 @@ public final class PerfumeOrgan {
             return keepHead(sign, note);
         }
 
-        private boolean keepHead(int sign, int number) {
+        private boolean keepHead(int sign, int noteOrAccord) {
             signs[parts] = sign;
-            whose[parts] = number;
+            whose[parts] = noteOrAccord;
             return true;
         }
 
