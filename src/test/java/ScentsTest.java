@@ -228,6 +228,19 @@ public final class ScentsTest {
         due.is("28 faded(0, -1)", x.faded(0, -1), -2);
         due.is("28 faded(16, -1)", x.faded(16, -1), -1);
         due.is("28 faded(-1, 5)", x.faded(-1, 5), -1);
+        PerfumeOrgan three = rosePineOud();
+        for (int p = 0; p <= 1000; p += 25) {
+            due.is("28 three notes to " + p, three.faded(1, p), firstHourBelow(all(0) * ((float) p / 1000.0f)));
+        }
+    }
+
+    private static int firstHourBelow(float bound) {
+        for (int hour = 0; hour <= 200; hour++) {
+            if (all(hour) < bound) {
+                return hour;
+            }
+        }
+        return -5;
     }
 
     private static void promise29() {
@@ -342,6 +355,39 @@ public final class ScentsTest {
         due.is("33 nothing is changed", Due.drops(x, 0), "0 5 5 5");
         due.is("33 thin(16)", x.thin(16), -1);
         due.is("33 thin(-1)", x.thin(-1), -1);
+        PerfumeOrgan y = Due.organOf(6);
+        for (int more = 0; more < 40; more++) {
+            int[] drops = {7, 7, 7 + more / 20, 7, 7 + more % 3, 7 + more};
+            Due.drop(y, 0, drops);
+            due.is("33 by rounded floats, " + more, y.thin(0), leastMissed(drops));
+        }
+    }
+
+    private static float far(int[] one, int allOfOne, int[] other, int allOfOther) {
+        float far = 0.0f;
+        for (int i = 0; i < one.length; i++) {
+            far = far + Math.abs((float) one[i] / (float) allOfOne - (float) other[i] / (float) allOfOther);
+        }
+        return far;
+    }
+
+    private static int leastMissed(int[] drops) {
+        int all = 0;
+        for (int n : drops) {
+            all += n;
+        }
+        int best = 0;
+        float least = 9.0f;
+        for (int note = 0; note < drops.length; note++) {
+            int[] without = drops.clone();
+            without[note] = 0;
+            float far = far(without, all - drops[note], drops, all);
+            if (far < least) {
+                least = far;
+                best = note;
+            }
+        }
+        return best;
     }
 
     private static void promise34() {
